@@ -2,7 +2,7 @@ import java.util.Random;
 
 /** Promises 1 to 14: runs of calls by chance, the same ones every time, each held against Oracle. */
 public final class OracleTest {
-    private static final int RUNS = 1500;
+    private static final int RUNS = 1000;
     private static final int CALLS = 200;
 
     private final Checks checks;
