@@ -1,4 +1,5 @@
 import java.util.ArrayList;
+import java.util.Arrays;
 import java.util.List;
 
 /** The document said as plainly as can be, without regard to speed: what MatchSeeker is held against. */
@@ -36,7 +37,7 @@ final class Oracle {
         if (n < 1 || n > 8 || data.length + n > 32768) {
             return false;
         }
-        byte[] longer = java.util.Arrays.copyOf(data, data.length + n);
+        byte[] longer = Arrays.copyOf(data, data.length + n);
         for (int k = 0; k < n; k++) {
             longer[data.length + k] = (byte) (eight >> (56 - 8 * k));
         }
@@ -48,7 +49,7 @@ final class Oracle {
         if (m < 1 || m > data.length || n < 0 || data.length + (long) m * n > 32768) {
             return false;
         }
-        byte[] longer = java.util.Arrays.copyOf(data, data.length + m * n);
+        byte[] longer = Arrays.copyOf(data, data.length + m * n);
         for (int k = 0; k < n; k++) {
             System.arraycopy(data, data.length - m, longer, data.length + k * m, m);
         }

@@ -1,8 +1,10 @@
+import java.lang.reflect.Field;
+
 /** Promise 13: unlike. DATA only grows until clear() takes all, so what is found always leads back to it. */
 public final class UnlikeTest {
     private static final Checks CHECKS = new Checks();
 
-    public static void main(String[] args) {
+    public static void main(String[] args) throws ReflectiveOperationException {
         MatchSeeker x = new MatchSeeker();
         CHECKS.due("before all", x.unlike(), 0);
         Checks.write(x, "abcabcabcab.aaaaaaaaa.abcaaaab");
@@ -27,6 +29,34 @@ public final class UnlikeTest {
         CHECKS.due("after clear()", x.unlike(), 0);
         Checks.write(x, "zzzz");
         CHECKS.due("after clear() and write()", x.unlike(), 0);
+        changedFromInside();
         CHECKS.finish("UnlikeTest");
+    }
+
+    /** No call can make DATA unlike what was found, so the test does, to see that it would be told. */
+    private static void changedFromInside() throws ReflectiveOperationException {
+        MatchSeeker x = new MatchSeeker();
+        Checks.write(x, "abcdabcdabc");
+        x.history(2);
+        x.go();
+        CHECKS.due("nothing changed", x.unlike(), 0);
+        Object row = open(x, "row").get(x);
+        byte[] bytes = (byte[]) open(row, "bytes").get(row);
+        bytes[0] = 'A';
+        CHECKS.due("the HISTORY changed: what is said again is unlike twice", x.unlike(), 2);
+        bytes[3] = 'D';
+        CHECKS.due("a LITERAL changed too", x.unlike(), 3);
+        bytes[5] = 'B';
+        CHECKS.due("a byte of the MATCH changed too", x.unlike(), 4);
+        open(row, "filled").setInt(row, 7);
+        CHECKS.due("four bytes are missing", x.unlike(), 2 + 4);
+        open(row, "filled").setInt(row, 0);
+        CHECKS.due("all are missing", x.unlike(), 11);
+    }
+
+    private static Field open(Object owner, String name) throws ReflectiveOperationException {
+        Field field = owner.getClass().getDeclaredField(name);
+        field.setAccessible(true);
+        return field;
     }
 }
