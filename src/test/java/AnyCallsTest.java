@@ -17,7 +17,7 @@ public final class AnyCallsTest {
         Checks checks = new Checks();
         for (int run = 0; run < 400; run++) {
             AnyCallsTest test = new AnyCallsTest(run);
-            for (int call = 0; call < 512; call++) {
+            for (int call = 0; call < 510; call++) {
                 test.callByChance();
             }
             checks.due("run " + run + ": size()", test.x.size() >= 0 && test.x.size() <= 32768, true);

@@ -1,9 +1,9 @@
 import java.util.Random;
 
-/** Promises 1 to 14: runs of calls by chance, the same ones every time, each held against Oracle. */
+/** Promises 1 to 14: runs of calls by chance, the same ones every time and no more than are promised, held against Oracle. */
 public final class OracleTest {
     private static final int RUNS = 1000;
-    private static final int CALLS = 200;
+    private static final int CALLS = 512;
 
     private final Checks checks;
     private final Random random;
@@ -11,9 +11,11 @@ public final class OracleTest {
     private final int alphabet;
     private final MatchSeeker x = new MatchSeeker();
     private final Oracle y = new Oracle();
-    private String id = "";
+    private final int run;
+    private int calls = 0;
 
     private OracleTest(int run, int mostBytes, Checks checks) {
+        this.run = run;
         this.checks = checks;
         this.mostBytes = mostBytes;
         this.random = new Random(run * 7919L + 17);
@@ -25,12 +27,20 @@ public final class OracleTest {
         for (int run = 0; run < RUNS; run++) {
             int mostBytes = run % 50 == 0 ? 6000 : run % 5 == 0 ? 600 : 90;
             OracleTest test = new OracleTest(run, mostBytes, checks);
-            for (int call = 0; call < CALLS; call++) {
-                test.id = "run " + run + ", call " + call + ": ";
+            while (test.calls < CALLS) {
                 test.callByChance();
             }
         }
         checks.finish("OracleTest");
+    }
+
+    private void due(String call, long got, long want) {
+        calls++;
+        checks.due("run " + run + ", call " + calls + ": " + call, got, want);
+    }
+
+    private void due(String call, boolean got, boolean want) {
+        due(call, got ? 1 : 0, want ? 1 : 0);
     }
 
     private int from(int low, int high) {
@@ -54,7 +64,7 @@ public final class OracleTest {
             case 15: case 16: go(); break;
             case 17: about(); break;
             case 18: stretches(); break;
-            default: unlikeAndSize(); break;
+            default: unlikeOrSize(); break;
         }
     }
 
@@ -65,7 +75,7 @@ public final class OracleTest {
         }
         int n = seldom() ? from(-1, 10) : from(1, 8);
         if (y.size() < mostBytes) {
-            checks.due(id + "write(" + eight + ", " + n + ")", x.write(eight, n), y.write(eight, n));
+            due("write(" + eight + ", " + n + ")", x.write(eight, n), y.write(eight, n));
         }
     }
 
@@ -74,13 +84,13 @@ public final class OracleTest {
         int m = from(-1, random.nextBoolean() ? size + 1 : Math.min(size, 12));
         int n = from(-1, m < 1 ? 3 : Math.min(20, (mostBytes - size) / m + 1));
         if ((long) m * n <= mostBytes) {
-            checks.due(id + "again(" + m + ", " + n + ")", x.again(m, n), y.again(m, n));
+            due("again(" + m + ", " + n + ")", x.again(m, n), y.again(m, n));
         }
     }
 
     private void history() {
         int h = seldom() ? from(-1, y.size() + 1) : from(0, y.size() / 2);
-        checks.due(id + "history(" + h + ")", x.history(h), y.history(h));
+        due("history(" + h + ")", x.history(h), y.history(h));
     }
 
     private void rule() {
@@ -88,7 +98,7 @@ public final class OracleTest {
         int window = seldom() ? from(65535, 65537) : from(0, random.nextBoolean() ? 20 : 3000);
         int least = from(seldom() ? 2 : 3, seldom() ? 9 : 8);
         int cap = seldom() ? from(131071, 131073) : from(least - 1, random.nextBoolean() ? least + 12 : 99);
-        checks.due(id + "rule(" + way + ", " + window + ", " + least + ", " + cap + ")",
+        due("rule(" + way + ", " + window + ", " + least + ", " + cap + ")",
                 x.rule(way, window, least, cap), y.rule(way, window, least, cap));
     }
 
@@ -97,12 +107,13 @@ public final class OracleTest {
         int b = from(seldom() ? -1 : 0, seldom() ? 33 : 6);
         int literal = from(seldom() ? -1 : 0, seldom() ? 256 : 12);
         int match = from(seldom() ? -1 : 0, seldom() ? 256 : 20);
-        checks.due(id + "bounds(" + a + ", " + b + ", " + literal + ", " + match + ")",
+        due("bounds(" + a + ", " + b + ", " + literal + ", " + match + ")",
                 x.bounds(a, b, literal, match), y.bounds(a, b, literal, match));
     }
 
     private void clear() {
         if (seldom()) {
+            calls++;
             x.clear();
             y.clear();
         }
@@ -112,36 +123,48 @@ public final class OracleTest {
         int p = from(-1, y.size());
         int way = from(-1, 4);
         int what = from(seldom() ? -1 : 0, seldom() ? 2 : 1);
-        checks.due(id + "at(" + p + ", " + way + ", " + what + ")", x.at(p, way, what), y.at(p, way, what));
+        due("at(" + p + ", " + way + ", " + what + ")", x.at(p, way, what), y.at(p, way, what));
     }
 
     private void count() {
         int p = from(-1, y.size());
-        checks.due(id + "count(" + p + ")", x.count(p), y.count(p));
+        due("count(" + p + ")", x.count(p), y.count(p));
     }
 
     private void go() {
         if (y.size() <= 700 || seldom()) {
-            checks.due(id + "go()", x.go(), y.go());
+            due("go()", x.go(), y.go());
         }
     }
 
     private void about() {
-        for (int what = -1; what <= 5; what++) {
-            checks.due(id + "about(" + what + ")", x.about(what), y.about(what));
+        for (int what = -1; what <= 5 && calls < CALLS; what++) {
+            due("about(" + what + ")", x.about(what), y.about(what));
         }
     }
 
     private void stretches() {
-        for (int k = -1; k < 40; k++) {
-            for (int what = -1; what <= 3; what++) {
-                checks.due(id + "stretch(" + k + ", " + what + ")", x.stretch(k, what), y.stretch(k, what));
-            }
+        stretch(-1);
+        int k = 0;
+        while (k < 12 && y.stretch(k, 0) >= 0) {
+            stretch(k);
+            k++;
+        }
+        stretch(k);
+        stretch(from(0, y.size() / 3));
+    }
+
+    private void stretch(int k) {
+        for (int what = seldom() ? -1 : 0; what <= (seldom() ? 3 : 2) && calls < CALLS; what++) {
+            due("stretch(" + k + ", " + what + ")", x.stretch(k, what), y.stretch(k, what));
         }
     }
 
-    private void unlikeAndSize() {
-        checks.due(id + "unlike()", x.unlike(), y.unlike());
-        checks.due(id + "size()", x.size(), y.size());
+    private void unlikeOrSize() {
+        if (random.nextBoolean()) {
+            due("unlike()", x.unlike(), y.unlike());
+        } else {
+            due("size()", x.size(), y.size());
+        }
     }
 }

@@ -35,6 +35,7 @@ public final class UnlikeTest {
 
     /** No call can make DATA unlike what was found, so the test does, to see that it would be told. */
     private static void changedFromInside() throws ReflectiveOperationException {
+        CHECKS.says("are not as DATA has them now (missing ones count).");
         MatchSeeker x = new MatchSeeker();
         Checks.write(x, "abcdabcdabc");
         x.history(2);
