@@ -37,7 +37,9 @@ public final class AnyCallsTest {
             case 1: x.again(odd(), odd()); break;
             case 2: x.history(odd()); break;
             case 3: x.rule(odd(), odd(), odd(), odd()); break;
-            case 4: x.rule(random.nextInt(5), 1 + random.nextInt(9000), 3 + random.nextInt(6), 8 + random.nextInt(99)); break;
+            case 4:
+                x.rule(random.nextInt(5), 1 + random.nextInt(9000), 3 + random.nextInt(6), 8 + random.nextInt(99));
+                break;
             case 5: x.bounds(odd(), odd(), odd(), odd()); break;
             case 6: x.bounds(random.nextInt(33), random.nextInt(33), random.nextInt(256), random.nextInt(256)); break;
             case 7: x.at(odd(), odd(), odd()); break;

@@ -61,6 +61,22 @@ final class Checks {
         }
     }
 
+    /** A new object that holds a text's characters as bytes. */
+    static MatchSeeker holding(String text) {
+        MatchSeeker x = new MatchSeeker();
+        write(x, text);
+        return x;
+    }
+
+    /** A new object that holds so many bytes, all alike: each place matches all before it. */
+    static MatchSeeker alike(int bytes) {
+        MatchSeeker x = new MatchSeeker();
+        if (bytes > 0 && !(x.write(0, 1) && x.again(1, bytes - 1))) {
+            throw new IllegalStateException("no room for the test's bytes");
+        }
+        return x;
+    }
+
     /** Writes a text's characters as bytes, with as few calls as can be. */
     static void write(MatchSeeker x, String text) {
         for (int from = 0; from < text.length(); from += 8) {

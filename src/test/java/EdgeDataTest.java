@@ -1,4 +1,4 @@
-/** The boundary cases of the promises 1 to 5 and 14, and of DATA and HISTORY under 'Terms': a method for each sentence. */
+/** The boundary cases of promises 1 to 5 and 14, of DATA and HISTORY under 'Terms': a method for each sentence. */
 public final class EdgeDataTest {
     private static final int MIN = Integer.MIN_VALUE;
     private static final int MAX = Integer.MAX_VALUE;
@@ -96,9 +96,7 @@ public final class EdgeDataTest {
         far.again(1, MOST - 9);
         Checks.write(far, "abcd");
         CHECKS.due("the furthest MATCH is in the WINDOW", far.at(MOST - 4, 0, 1), MOST - 4);
-        MatchSeeker same = new MatchSeeker();
-        same.write(0, 1);
-        same.again(1, MOST - 1);
+        MatchSeeker same = Checks.alike(MOST);
         CHECKS.due("the longest MATCH is below the CAP", same.at(1, 2, 0), MOST - 1);
     }
 

@@ -36,19 +36,6 @@ public final class EdgeGoingTest {
         CHECKS.finish("EdgeGoingTest");
     }
 
-    private static MatchSeeker holding(String text) {
-        MatchSeeker x = new MatchSeeker();
-        Checks.write(x, text);
-        return x;
-    }
-
-    private static MatchSeeker alike(int bytes) {
-        MatchSeeker x = new MatchSeeker();
-        x.write(0, 1);
-        x.again(1, bytes - 1);
-        return x;
-    }
-
     /** Goes; the rest is the STRETCHES' LITERALS, LENGTHS and DISTANCES in their order, and the TAIL. */
     private static void goes(MatchSeeker x, int... due) {
         CHECKS.due("go()", x.go(), due.length / 3);
@@ -68,7 +55,7 @@ public final class EdgeGoingTest {
     private static void goingFromHistoryToTheEnd() {
         CHECKS.says("GOING over the DATA from place h on, to place n");
         for (int way = 0; way <= 4; way++) {
-            MatchSeeker x = holding("abcdefgabcdefg");
+            MatchSeeker x = Checks.holding("abcdefgabcdefg");
             x.rule(way, 65536, 4, 131072);
             goes(x, 7, 7, 7, 0);
             x.history(6);
@@ -94,7 +81,7 @@ public final class EdgeGoingTest {
             MatchSeeker none = new MatchSeeker();
             none.rule(way, 65536, 3, 131072);
             goes(none, 0);
-            MatchSeeker full = alike(MOST);
+            MatchSeeker full = Checks.alike(MOST);
             full.rule(way, 65536, 3, 131072);
             full.history(MOST);
             goes(full, 0);
@@ -103,7 +90,7 @@ public final class EdgeGoingTest {
             full.history(MOST - 3);
             goes(full, 0, 3, 1, 0);
         }
-        MatchSeeker most = alike(MOST);
+        MatchSeeker most = Checks.alike(MOST);
         most.rule(0, 65536, 3, 3);
         most.history(2);
         CHECKS.due("the most there can be", most.go(), 10922);
@@ -114,7 +101,7 @@ public final class EdgeGoingTest {
     private static void literalsAlone() {
         CHECKS.says("where there is no MATCH, the byte is a LITERAL, and it goes on one further");
         for (int way = 0; way <= 4; way++) {
-            MatchSeeker x = holding("a");
+            MatchSeeker x = Checks.holding("a");
             x.rule(way, 65536, 3, 131072);
             goes(x, 1);
             Checks.write(x, "bc.abx");
@@ -128,7 +115,7 @@ public final class EdgeGoingTest {
 
     private static void goingOnBehindTheMatch() {
         CHECKS.says("else it goes on behind the MATCH.");
-        MatchSeeker x = holding("abcdefgh.abcd");
+        MatchSeeker x = Checks.holding("abcdefgh.abcd");
         x.again(4, 1);
         goes(x, 9, 4, 9, 0, 4, 4, 0);
         x.rule(2, 65536, 4, 4);
@@ -140,7 +127,7 @@ public final class EdgeGoingTest {
         CHECKS.says("None begins behind LAST.");
         for (int way = 0; way <= 4; way++) {
             for (int a = 3; a <= 32; a++) {
-                MatchSeeker x = alike(64);
+                MatchSeeker x = Checks.alike(64);
                 x.rule(way, 65536, 4, 131072);
                 x.bounds(a, 0, 8, 1);
                 x.history(63 - a);
@@ -153,7 +140,7 @@ public final class EdgeGoingTest {
 
     private static void smallerButLeastAtLeast() {
         CHECKS.says("a MATCH may also be taken with any smaller LENGTH, but LEAST at least.");
-        MatchSeeker x = holding("aaaaaaaaaaaa");
+        MatchSeeker x = Checks.holding("aaaaaaaaaaaa");
         x.bounds(0, 0, 200, 16);
         x.rule(4, 65536, 4, 10);
         goes(x, 1, 7, 1, 0, 4, 1, 0);
@@ -178,30 +165,38 @@ public final class EdgeGoingTest {
     }
 
     private static void costOfOneMatch(int distance, int bits) {
+        MatchSeeker x = saidAgainFrom(distance);
         for (int way : new int[] {2, 4}) {
-            MatchSeeker x = new MatchSeeker();
-            x.write(1L << 56, 1);
-            x.write(0, 1);
-            x.again(1, Math.max(0, distance - 2));
-            if (distance < 8) {
-                x = holding("abcdefg".substring(0, distance));
-                x.again(distance, 8);
-            } else {
-                x.write(1L << 56, 8);
-            }
-            x.history(distance);
             x.rule(way, 65536, 4, 131072);
             x.bounds(0, 0, 255, 100);
-            CHECKS.due("DISTANCE " + distance + ": go()", x.go(), 1);
-            CHECKS.due("DISTANCE " + distance + ": about(4)", x.about(4), distance);
+            goes(x, 0, 8, distance, 0);
             CHECKS.due("DISTANCE " + distance + ": about(2)", x.about(2), 100 + bits);
         }
+        x.bounds(0, 0, 8, 64 - bits);
+        goes(x, 0, 8, distance, 0);
+        CHECKS.due("DISTANCE " + distance + ", as cheap as eight LITERALS: about(2)", x.about(2), 64);
+        x.bounds(0, 0, 8, 65 - bits);
+        goes(x, 8);
+        CHECKS.due("DISTANCE " + distance + ", dearer than eight LITERALS: about(2)", x.about(2), 64);
+    }
+
+    /** Behind the HISTORY stand eight bytes that stand so far before too, and nowhere else. */
+    private static MatchSeeker saidAgainFrom(int distance) {
+        String words = distance < 8 ? "abcdefg".substring(0, distance).repeat(9) : "abcdefgh";
+        MatchSeeker x = Checks.holding(words.substring(0, Math.min(distance, 8)));
+        if (distance > 8) {
+            x.write(0, 1);
+            x.again(1, distance - 9);
+        }
+        Checks.write(x, words.substring(0, 8));
+        x.history(distance);
+        return x;
     }
 
     private static void justSo() {
         CHECKS.says("that cover the DATA from place h to n, just so");
         for (int h = 0; h <= 12; h++) {
-            MatchSeeker x = holding("abcabcabcabc");
+            MatchSeeker x = Checks.holding("abcabcabcabc");
             x.rule(4, 65536, 3, 5);
             x.bounds(0, 0, 200, 1);
             x.history(h);
@@ -217,7 +212,7 @@ public final class EdgeGoingTest {
 
     private static void costIsLeast() {
         CHECKS.says("the one whose cost is least");
-        MatchSeeker x = holding("abcd.abcd");
+        MatchSeeker x = Checks.holding("abcd.abcd");
         x.rule(4, 65536, 4, 131072);
         x.bounds(0, 0, 8, 30);
         goes(x, 9);
@@ -242,7 +237,7 @@ public final class EdgeGoingTest {
 
     /** Behind the HISTORY eight bytes that stand 32 before, and seven of them 8 before too. */
     private static MatchSeeker farAndLongOrNear() {
-        MatchSeeker x = holding("abcdefgh1234567890123456abcdefg.abcdefgh");
+        MatchSeeker x = Checks.holding("abcdefgh1234567890123456abcdefg.abcdefgh");
         x.rule(4, 65536, 4, 131072);
         x.history(32);
         return x;
@@ -250,19 +245,19 @@ public final class EdgeGoingTest {
 
     private static void matchNotLiteral() {
         CHECKS.says("has the MATCH, not the LITERAL");
-        MatchSeeker x = holding("abcd.abcd");
+        MatchSeeker x = Checks.holding("abcd.abcd");
         x.rule(4, 65536, 4, 131072);
         x.bounds(0, 0, 8, 29);
         goes(x, 5, 4, 5, 0);
         CHECKS.due("32 for both: about(2)", x.about(2), 72);
-        MatchSeeker first = holding("aaaaaa");
+        MatchSeeker first = Checks.holding("aaaaaa");
         first.rule(4, 65536, 4, 4);
         goes(first, 1, 4, 1, 1);
     }
 
     private static void longerOfTwo() {
         CHECKS.says("the longer one of two");
-        MatchSeeker x = holding("aaaaaaaaa");
+        MatchSeeker x = Checks.holding("aaaaaaaaa");
         x.rule(4, 65536, 4, 5);
         goes(x, 1, 4, 1, 0, 4, 1, 0);
         Checks.write(x, "a");
@@ -275,21 +270,21 @@ public final class EdgeGoingTest {
 
     private static void nearerOfTwo() {
         CHECKS.says("of two as long the nearer.");
-        MatchSeeker x = holding("abcd1abcd2abcd");
+        MatchSeeker x = Checks.holding("abcd1abcd2abcd");
         x.rule(4, 65536, 4, 131072);
         x.history(10);
         goes(x, 0, 4, 5, 0);
-        MatchSeeker sameBits = holding("abcd1abcd23456abcd");
+        MatchSeeker sameBits = Checks.holding("abcd1abcd23456abcd");
         sameBits.rule(4, 65536, 4, 131072);
         sameBits.history(14);
         goes(sameBits, 0, 4, 9, 0);
         CHECKS.due("9 and 14 have four bits: about(2)", sameBits.about(2), 20);
-        MatchSeeker furtherCouldBeLonger = holding("abcdefXefghYabcdeZ0123456789abcdefgh");
+        MatchSeeker furtherCouldBeLonger = Checks.holding("abcdefXefghYabcdeZ0123456789abcdefgh");
         furtherCouldBeLonger.rule(4, 65536, 4, 131072);
         furtherCouldBeLonger.bounds(0, 0, 200, 16);
         furtherCouldBeLonger.history(28);
         goes(furtherCouldBeLonger, 0, 4, 16, 0, 4, 25, 0);
-        MatchSeeker run = holding("aaaaaaaaaaaa");
+        MatchSeeker run = Checks.holding("aaaaaaaaaaaa");
         run.rule(4, 65536, 4, 131072);
         run.history(7);
         goes(run, 0, 5, 1, 0);
@@ -297,12 +292,24 @@ public final class EdgeGoingTest {
 
     private static void noneButTheLatest() {
         CHECKS.says("Of STRETCH k of the latest GOING");
+        for (int way = 0; way <= 4; way++) {
+            MatchSeeker x = Checks.alike(8);
+            x.rule(way, 65536, 4, 131072);
+            goes(x, 1, 7, 1, 0);
+            x.again(8, 1);
+            goes(x, 1, 15, 1, 0);
+            x.history(12);
+            goes(x, 0, 4, 1, 0);
+            x.history(0);
+            goes(x, 1, 15, 1, 0);
+        }
         for (State state : State.values()) {
             for (int way = 0; way <= 4; way++) {
                 int w = way;
-                TWINS.alike(state + ", WAY " + w + ": gone over twice, and once", x -> {
+                TWINS.alike(state + ", WAY " + w + ": gone over before too, and not", x -> {
                     state.bring(x);
-                    goOver(x, 4 - w, 65536, 3);
+                    goOver(x, 4 - w, 65536, 8);
+                    goOver(x, 4, 65536, 3);
                     goOver(x, w, 30, 4);
                 }, x -> {
                     state.bring(x);
@@ -314,14 +321,14 @@ public final class EdgeGoingTest {
 
     private static void goOver(MatchSeeker x, int way, int window, int least) {
         x.rule(way, window, least, 12);
-        x.bounds(least, 7 - least, 9, way + 11);
-        x.history(Math.max(x.size() / least, x.size() - MOST_BY_COST));
+        x.bounds(least, 0, 9, way + 11);
+        x.history(Math.max(x.size() / least, x.size() - 1000 * least));
         x.go();
     }
 
     private static void stretchesAndTail() {
         CHECKS.says("What GOING finds are STRETCHES, numbered from 0, one for each MATCH");
-        MatchSeeker x = holding("abcdabcdabcd");
+        MatchSeeker x = Checks.holding("abcdabcdabcd");
         x.rule(2, 65536, 4, 4);
         goes(x, 4, 4, 4, 0, 4, 4, 0);
         CHECKS.due("no LITERAL between and no TAIL: about(1)", x.about(1), 4);
@@ -336,7 +343,7 @@ public final class EdgeGoingTest {
     private static void goByCostRefused() {
         CHECKS.says("-1, refused, with WAY 4 and more than 8,192 bytes behind the HISTORY.");
         TWINS.changesNothing(State.FULL_BY_COST, "go()", MatchSeeker::go, -1);
-        MatchSeeker x = holding("abcdefgabcdefg");
+        MatchSeeker x = Checks.holding("abcdefgabcdefg");
         goes(x, 7, 7, 7, 0);
         x.rule(4, 65536, 4, 131072);
         x.again(7, 1170);
@@ -347,7 +354,7 @@ public final class EdgeGoingTest {
         found(x, 7, 7, 7, 0);
         x.history(12);
         goes(x, 0, 8192, 7, 0);
-        MatchSeeker full = alike(MOST);
+        MatchSeeker full = Checks.alike(MOST);
         full.rule(4, 1, 3, 3);
         CHECKS.due("a full one: go()", full.go(), -1);
         full.history(MOST - MOST_BY_COST - 1);
@@ -360,20 +367,20 @@ public final class EdgeGoingTest {
     private static void goByCostAtMost() {
         CHECKS.says("with WAY 4 and more than 8,192 bytes");
         for (int bytes : new int[] {1, 2, 3, 4, 511, 512, 513, 4095, 4096, 4097, MOST_BY_COST - 1, MOST_BY_COST}) {
-            MatchSeeker some = alike(bytes);
+            MatchSeeker some = Checks.alike(bytes);
             some.rule(4, 65536, 3, 131072);
             CHECKS.due(bytes + " bytes: go()", some.go(), bytes > 3 ? 1 : 0);
             CHECKS.due(bytes + " bytes: about(3)", some.about(3), bytes > 3 ? bytes - 1 : 0);
             CHECKS.due(bytes + " bytes: about(1)", some.about(1), bytes > 3 ? 1 : bytes);
         }
-        MatchSeeker x = alike(MOST_BY_COST);
+        MatchSeeker x = Checks.alike(MOST_BY_COST);
         x.rule(4, 65536, 3, 131072);
         goes(x, 1, 8191, 1, 0);
         x.write(0, 1);
         CHECKS.due("8,193 bytes: go()", x.go(), -1);
         x.history(1);
         goes(x, 0, 8192, 1, 0);
-        MatchSeeker full = alike(MOST);
+        MatchSeeker full = Checks.alike(MOST);
         full.rule(4, 1, 3, 3);
         full.history(MOST - MOST_BY_COST);
         CHECKS.due("8,192 bytes of a full one: go()", full.go(), 2730);
@@ -386,10 +393,10 @@ public final class EdgeGoingTest {
     private static void goOtherwiseNotRefused() {
         CHECKS.says("refused, with WAY 4");
         for (int way = 0; way <= 3; way++) {
-            MatchSeeker x = alike(MOST_BY_COST + 1);
+            MatchSeeker x = Checks.alike(MOST_BY_COST + 1);
             x.rule(way, 65536, 3, 131072);
             goes(x, 1, MOST_BY_COST, 1, 0);
-            MatchSeeker full = alike(MOST);
+            MatchSeeker full = Checks.alike(MOST);
             full.rule(way, 65536, 3, 131072);
             goes(full, 1, MOST - 1, 1, 0);
         }
@@ -418,7 +425,7 @@ public final class EdgeGoingTest {
             TWINS.changesNothing(state, "stretch(-1, 0)", x -> x.stretch(-1, 0), -1);
             TWINS.changesNothing(state, "stretch(0, 3)", x -> x.stretch(0, 3), -1);
         }
-        MatchSeeker fewer = holding("abcdabcdabcd");
+        MatchSeeker fewer = Checks.holding("abcdabcdabcd");
         fewer.rule(2, 65536, 4, 4);
         goes(fewer, 4, 4, 4, 0, 4, 4, 0);
         fewer.history(9);
@@ -428,7 +435,7 @@ public final class EdgeGoingTest {
 
     private static void whatWasFoundStays() {
         CHECKS.says("(What was found stays when DATA or RULE change, but see clear.)");
-        MatchSeeker x = holding("abcdefgabcdefgh");
+        MatchSeeker x = Checks.holding("abcdefgabcdefgh");
         goes(x, 7, 7, 7, 1);
         x.write(0, 8);
         found(x, 7, 7, 7, 1);
@@ -446,17 +453,17 @@ public final class EdgeGoingTest {
     }
 
     private static void aboutEach() {
-        CHECKS.says("the TAIL (what 0), all LITERALS (1), the cost (2), the greatest LENGTH (3), the greatest DISTANCE (4)");
-        MatchSeeker x = holding("abcdefgh.abcdefgh1efgh22");
+        CHECKS.says("all LITERALS (1), the cost (2), the greatest LENGTH (3), the greatest DISTANCE (4)");
+        MatchSeeker x = Checks.holding("abcdefgh.abcdefgh1efgh22");
         x.go();
         about(x, 2, 9 + 1 + 2, 12 * 8 + 2 * 16 + 4 + 3, 8, 9);
-        MatchSeeker none = holding("abcdefgh");
+        MatchSeeker none = Checks.holding("abcdefgh");
         none.go();
         about(none, 8, 8, 64, 0, 0);
         none.history(8);
         none.go();
         about(none, 0, 0, 0, 0, 0);
-        MatchSeeker dearest = alike(MOST);
+        MatchSeeker dearest = Checks.alike(MOST);
         dearest.bounds(0, 32, 255, 255);
         dearest.rule(2, 1, 8, 8);
         dearest.go();
@@ -490,7 +497,7 @@ public final class EdgeGoingTest {
         for (State state : State.values()) {
             TWINS.changesNothing(state, "unlike()", MatchSeeker::unlike, 0);
         }
-        MatchSeeker x = holding("abcdefgabcdefg");
+        MatchSeeker x = Checks.holding("abcdefgabcdefg");
         x.go();
         x.clear();
         CHECKS.due("none then: unlike()", x.unlike(), 0);
@@ -504,7 +511,7 @@ public final class EdgeGoingTest {
 
     private static void unlikeAsHistoryWasThen() {
         CHECKS.says("behind its first h bytes as h was then");
-        MatchSeeker x = holding("abcdefgabcdefg.");
+        MatchSeeker x = Checks.holding("abcdefgabcdefg.");
         for (int then = 0; then <= 15; then++) {
             x.history(then);
             x.go();
@@ -513,7 +520,7 @@ public final class EdgeGoingTest {
                 CHECKS.due("history " + then + " then, " + now + " now: unlike()", x.unlike(), 0);
             }
         }
-        MatchSeeker full = alike(MOST);
+        MatchSeeker full = Checks.alike(MOST);
         full.go();
         full.history(MOST);
         CHECKS.due("all is HISTORY now: unlike()", full.unlike(), 0);

@@ -1,4 +1,4 @@
-/** The boundary cases of the promises 8 and 9, and of MATCHES and WAYS 0 to 3 under 'Terms': a method for each sentence. */
+/** The boundary cases of promises 8 and 9, of MATCHES and of WAYS 0 to 3 under 'Terms': a method for each sentence. */
 public final class EdgeMatchTest {
     private static final int MIN = Integer.MIN_VALUE;
     private static final int MAX = Integer.MAX_VALUE;
@@ -30,12 +30,6 @@ public final class EdgeMatchTest {
         CHECKS.finish("EdgeMatchTest");
     }
 
-    private static MatchSeeker holding(String text) {
-        MatchSeeker x = new MatchSeeker();
-        Checks.write(x, text);
-        return x;
-    }
-
     private static void due(MatchSeeker x, int p, int way, int length, int distance) {
         CHECKS.due("at(" + p + ", " + way + ", 0)", x.at(p, way, 0), length);
         CHECKS.due("at(" + p + ", " + way + ", 1)", x.at(p, way, 1), distance);
@@ -43,7 +37,7 @@ public final class EdgeMatchTest {
 
     private static void placeBelow() {
         CHECKS.says("(places are 0 .. n - 1) is a place q below p");
-        MatchSeeker x = holding("aaaaaaaa");
+        MatchSeeker x = Checks.holding("aaaaaaaa");
         for (int way = 0; way <= 3; way++) {
             due(x, 0, way, 0, 0);
             due(x, 1, way, 7, 1);
@@ -53,9 +47,9 @@ public final class EdgeMatchTest {
         CHECKS.due("none is below: count(0)", x.count(0), 0);
         CHECKS.due("place 0 is below: count(1)", x.count(1), 1);
         CHECKS.due("all four are below: count(4)", x.count(4), 4);
-        MatchSeeker y = holding("abcd.abcd");
+        MatchSeeker y = Checks.holding("abcd.abcd");
         due(y, 5, 2, 4, 5);
-        MatchSeeker least = holding("aaa");
+        MatchSeeker least = Checks.holding("aaa");
         least.rule(2, 65536, 3, 131072);
         due(least, 0, 2, 0, 0);
         due(least, 1, 2, 0, 0);
@@ -65,14 +59,14 @@ public final class EdgeMatchTest {
 
     private static void atMostTheWindow() {
         CHECKS.says("p - q (its DISTANCE) at most the WINDOW");
-        MatchSeeker x = holding("abcdefgh.abcd.abcdefgh");
+        MatchSeeker x = Checks.holding("abcdefgh.abcd.abcdefgh");
         int[][] lengthAndDistance = {{4, 0, 0}, {5, 4, 5}, {6, 4, 5}, {13, 4, 5}, {14, 8, 14}, {15, 8, 14}};
         for (int[] want : lengthAndDistance) {
             x.rule(2, want[0], 4, 131072);
             due(x, 14, 2, want[1], want[2]);
             CHECKS.due("WINDOW " + want[0] + ": count(14)", x.count(14), (want[1] + 3) / 4);
         }
-        MatchSeeker y = holding("aaaaaaaaaaaaaaaa");
+        MatchSeeker y = Checks.holding("aaaaaaaaaaaaaaaa");
         for (int window = 1; window <= 14; window++) {
             y.rule(2, window, 4, 131072);
             CHECKS.due("WINDOW " + window + ": count(10)", y.count(10), Math.min(10, window));
@@ -81,7 +75,7 @@ public final class EdgeMatchTest {
 
     private static void leastBytesAtLeast() {
         CHECKS.says("at least LEAST bytes from p on, one after the other, are those from q on");
-        MatchSeeker x = holding("abcdefghi1abc2abcd3abcde4abcdef5abcdefg6abcdefgh7");
+        MatchSeeker x = Checks.holding("abcdefghi1abc2abcd3abcde4abcdef5abcdefg6abcdefgh7");
         int[] places = {10, 14, 19, 25, 32, 40};
         for (int least = 3; least <= 8; least++) {
             x.rule(2, 65536, least, 131072);
@@ -94,7 +88,7 @@ public final class EdgeMatchTest {
                 CHECKS.due(told + "count", x.count(places[i]), same >= least ? words : 0);
             }
         }
-        MatchSeeker gap = holding("abcdefgh.abcXefgh");
+        MatchSeeker gap = Checks.holding("abcdefgh.abcXefgh");
         due(gap, 9, 2, 0, 0);
         due(gap, 13, 2, 4, 9);
     }
@@ -102,7 +96,7 @@ public final class EdgeMatchTest {
     private static void runsOnIntoItself() {
         CHECKS.says("(which may run on into p's)");
         for (int period = 1; period <= 9; period++) {
-            MatchSeeker x = holding("abcdefghi".substring(0, period));
+            MatchSeeker x = Checks.holding("abcdefghi".substring(0, period));
             x.again(period, 5);
             CHECKS.due("period " + period + ": at(" + period + ", 2, 0)", x.at(period, 2, 0), 5 * period);
             CHECKS.due("period " + period + ": at(" + period + ", 2, 1)", x.at(period, 2, 1), period);
@@ -111,7 +105,7 @@ public final class EdgeMatchTest {
 
     private static void beforeEnd() {
         CHECKS.says("all of p's before END");
-        MatchSeeker x = holding("abcdefgh.abcdefgh");
+        MatchSeeker x = Checks.holding("abcdefgh.abcdefgh");
         for (int b = 0; b <= 6; b++) {
             x.bounds(0, b, 8, 16);
             due(x, 9, 2, b <= 4 ? 8 - b : 0, b <= 4 ? 9 : 0);
@@ -122,7 +116,7 @@ public final class EdgeMatchTest {
 
     private static void atMostCap() {
         CHECKS.says("its LENGTH is how many are, at most CAP.");
-        MatchSeeker x = holding("abcdefgh.abcdefgh.");
+        MatchSeeker x = Checks.holding("abcdefgh.abcdefgh.");
         for (int cap = 4; cap <= 12; cap++) {
             x.rule(2, 65536, 4, cap);
             for (int way = 0; way <= 2; way++) {
@@ -135,7 +129,7 @@ public final class EdgeMatchTest {
     private static void noneBehindLast() {
         CHECKS.says("None begins behind LAST.");
         for (int a = 0; a <= 12; a++) {
-            MatchSeeker x = holding("abcdefgh.abcdefgh");
+            MatchSeeker x = Checks.holding("abcdefgh.abcdefgh");
             x.bounds(a, 0, 8, 16);
             for (int p = 9; p <= 13; p++) {
                 boolean some = p <= 16 - a;
@@ -149,7 +143,7 @@ public final class EdgeMatchTest {
 
     private static void wayZero() {
         CHECKS.says("WAY 0: of all at p the nearest.");
-        MatchSeeker x = holding("abcdefghijkl.abcdefgh.abcd.abcdefghijkl");
+        MatchSeeker x = Checks.holding("abcdefghijkl.abcdefgh.abcd.abcdefghijkl");
         due(x, 27, 0, 4, 5);
         x.rule(2, 65536, 5, 131072);
         due(x, 27, 0, 8, 14);
@@ -159,7 +153,7 @@ public final class EdgeMatchTest {
 
     private static void wayOneAtLeastEight() {
         CHECKS.says("the nearest of those whose LENGTH is at least 8, if there is one");
-        MatchSeeker x = holding("abcdefghijkl.abcdefghi.abcdefgh.abcdefg.abcd.abcdefghijkl");
+        MatchSeeker x = Checks.holding("abcdefghijkl.abcdefghi.abcdefgh.abcdefg.abcd.abcdefghijkl");
         due(x, 45, 1, 8, 22);
         x.rule(2, 22, 4, 131072);
         due(x, 45, 1, 8, 22);
@@ -174,7 +168,7 @@ public final class EdgeMatchTest {
 
     private static void wayOneElseAsWayZero() {
         CHECKS.says("if there is one, else as WAY 0.");
-        MatchSeeker x = holding("abcdefghijkl.abcdefghi.abcdefgh.abcdefg.abcd.abcdefghijkl");
+        MatchSeeker x = Checks.holding("abcdefghijkl.abcdefghi.abcdefgh.abcdefg.abcd.abcdefghijkl");
         x.rule(2, 21, 4, 131072);
         due(x, 45, 1, 4, 5);
         x.rule(2, 65536, 4, 7);
@@ -184,7 +178,7 @@ public final class EdgeMatchTest {
         due(x, 45, 1, 4, 5);
         x.bounds(12, 0, 8, 16);
         due(x, 45, 1, 0, 0);
-        MatchSeeker seven = holding("abcdefg.abcd.abcdefg");
+        MatchSeeker seven = Checks.holding("abcdefg.abcd.abcdefg");
         due(seven, 13, 1, 4, 5);
         Checks.write(seven, ".abcdefg.");
         due(seven, 21, 1, 8, 8);
@@ -193,7 +187,7 @@ public final class EdgeMatchTest {
 
     private static void wayTwo() {
         CHECKS.says("WAY 2: the longest, of several the nearest.");
-        MatchSeeker x = holding("abcdefgh1abcdefgh2abcdefg3abcdefgh");
+        MatchSeeker x = Checks.holding("abcdefgh1abcdefgh2abcdefg3abcdefgh");
         due(x, 26, 2, 8, 17);
         x.rule(2, 65536, 4, 8);
         due(x, 26, 2, 8, 17);
@@ -204,18 +198,18 @@ public final class EdgeMatchTest {
         x.rule(2, 65536, 4, 131072);
         x.bounds(0, 1, 8, 16);
         due(x, 26, 2, 7, 8);
-        MatchSeeker same = holding("aaaaaaaaaaaa");
+        MatchSeeker same = Checks.holding("aaaaaaaaaaaa");
         due(same, 6, 2, 6, 1);
     }
 
     private static void wayThreeLongerByOne() {
         CHECKS.says("the longest at p + 1 is longer than that at p, there is none at p.");
-        MatchSeeker longer = holding("bcdef1abcd2abcdef");
+        MatchSeeker longer = Checks.holding("bcdef1abcd2abcdef");
         due(longer, 11, 2, 4, 5);
         due(longer, 12, 2, 5, 12);
         due(longer, 11, 3, 0, 0);
         due(longer, 12, 3, 5, 12);
-        MatchSeeker asLong = holding("bcde1abcd2abcde");
+        MatchSeeker asLong = Checks.holding("bcde1abcd2abcde");
         due(asLong, 10, 2, 4, 5);
         due(asLong, 11, 2, 4, 11);
         due(asLong, 10, 3, 4, 5);
@@ -234,7 +228,7 @@ public final class EdgeMatchTest {
 
     private static void wayThreeNextBehindLast() {
         CHECKS.says("WAY 3: as WAY 2; but when p + 1 is not behind LAST");
-        MatchSeeker x = holding("bcdefg1abcd2abcdefg");
+        MatchSeeker x = Checks.holding("bcdefg1abcd2abcdefg");
         x.bounds(5, 0, 8, 16);
         due(x, 13, 2, 6, 13);
         due(x, 12, 3, 0, 0);
@@ -243,16 +237,20 @@ public final class EdgeMatchTest {
         due(x, 12, 3, 4, 5);
         x.bounds(7, 0, 8, 16);
         due(x, 12, 3, 0, 0);
-        MatchSeeker full = new MatchSeeker();
-        full.write(0, 1);
-        full.again(1, MOST - 1);
+        MatchSeeker longWords = Checks.holding("bcdefghijklm1abcdefghi2abcdefghijklm");
+        longWords.bounds(11, 0, 8, 16);
+        due(longWords, 23, 2, 9, 10);
+        due(longWords, 23, 3, 0, 0);
+        longWords.bounds(12, 0, 8, 16);
+        due(longWords, 23, 3, 9, 10);
+        MatchSeeker full = Checks.alike(MOST);
         due(full, MOST - 4, 3, 4, 1);
         due(full, MOST - 1, 3, 0, 0);
     }
 
     private static void wayThreeNoneHere() {
         CHECKS.says("WAY 3: as WAY 2");
-        MatchSeeker x = holding("bcdefgh2abcdefgh");
+        MatchSeeker x = Checks.holding("bcdefgh2abcdefgh");
         due(x, 8, 2, 0, 0);
         due(x, 8, 3, 0, 0);
         due(x, 9, 3, 7, 9);
@@ -267,7 +265,7 @@ public final class EdgeMatchTest {
                 due(state.make(), 0, way, 0, 0);
             }
         }
-        MatchSeeker x = holding("abcdefghijkl");
+        MatchSeeker x = Checks.holding("abcdefghijkl");
         for (int p = 0; p <= 11; p++) {
             for (int way = 0; way <= 3; way++) {
                 due(x, p, way, 0, 0);
@@ -289,13 +287,13 @@ public final class EdgeMatchTest {
             TWINS.changesNothing(state, "at(" + n + ", 3, 0)", x -> x.at(n, 3, 0), 0);
             TWINS.changesNothing(state, "at(-1, 3, 0)", x -> x.at(-1, 3, 0), 0);
         }
-        MatchSeeker x = holding("aaaaaaaa");
+        MatchSeeker x = Checks.holding("aaaaaaaa");
         due(x, 4, 3, 4, 1);
     }
 
     private static void atNoWayOrWhat() {
         CHECKS.says("or way or what is none of these.");
-        MatchSeeker x = holding("abcdabcd");
+        MatchSeeker x = Checks.holding("abcdabcd");
         due(x, 4, 0, 4, 4);
         due(x, 4, 3, 4, 4);
         for (int way : new int[] {-1, 4, 5, MIN, MAX}) {
@@ -314,9 +312,7 @@ public final class EdgeMatchTest {
 
     private static void countFromNoneToAll() {
         CHECKS.says("How many MATCHES (places q) there are at p");
-        MatchSeeker x = new MatchSeeker();
-        x.write(0, 1);
-        x.again(1, MOST - 1);
+        MatchSeeker x = Checks.alike(MOST);
         x.rule(2, 65536, 3, 3);
         CHECKS.due("count(0)", x.count(0), 0);
         CHECKS.due("count(1)", x.count(1), 1);

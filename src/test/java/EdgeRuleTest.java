@@ -21,16 +21,6 @@ public final class EdgeRuleTest {
         CHECKS.finish("EdgeRuleTest");
     }
 
-    /** So many bytes, all alike: each place but the first has as many MATCHES as there are places before it. */
-    private static MatchSeeker alike(int bytes) {
-        MatchSeeker x = new MatchSeeker();
-        if (bytes > 0) {
-            x.write(0, 1);
-            x.again(1, bytes - 1);
-        }
-        return x;
-    }
-
     private static void taken(MatchSeeker x, int way, int window, int least, int cap) {
         String call = "rule(" + way + ", " + window + ", " + least + ", " + cap + ")";
         CHECKS.due(call, x.rule(way, window, least, cap), true);
@@ -71,7 +61,7 @@ public final class EdgeRuleTest {
 
     private static void windows() {
         CHECKS.says("a WINDOW (1 .. 65,536; at first 65,536)");
-        MatchSeeker x = alike(100);
+        MatchSeeker x = Checks.alike(100);
         taken(x, 2, 1, 4, 131072);
         CHECKS.due("the smallest: count(50)", x.count(50), 1);
         CHECKS.due("the smallest: count(1)", x.count(1), 1);
@@ -94,12 +84,12 @@ public final class EdgeRuleTest {
     private static void leasts() {
         CHECKS.says("LEAST (3 .. 8; at first 4)");
         for (int least = 3; least <= 8; least++) {
-            MatchSeeker x = alike(20);
+            MatchSeeker x = Checks.alike(20);
             taken(x, 2, 65536, least, 131072);
             CHECKS.due("LEAST " + least + ": just so many", x.at(20 - least, 2, 0), least);
             CHECKS.due("LEAST " + least + ": one less", x.at(21 - least, 2, 0), 0);
         }
-        MatchSeeker first = alike(20);
+        MatchSeeker first = Checks.alike(20);
         CHECKS.due("at first 4: at(16, 2, 0)", first.at(16, 2, 0), 4);
         CHECKS.due("at first 4: at(17, 2, 0)", first.at(17, 2, 0), 0);
         for (int least : new int[] {2, 1, 0, -1, 9, MIN, MAX}) {
@@ -111,12 +101,12 @@ public final class EdgeRuleTest {
     private static void caps() {
         CHECKS.says("CAP (LEAST .. 131,072; at first 131,072)");
         for (int least = 3; least <= 8; least++) {
-            MatchSeeker x = alike(100);
+            MatchSeeker x = Checks.alike(100);
             taken(x, 2, 65536, least, least);
             CHECKS.due("CAP is LEAST: at(1, 2, 0)", x.at(1, 2, 0), least);
             refused(2, 65536, least, least - 1);
         }
-        MatchSeeker y = alike(32768);
+        MatchSeeker y = Checks.alike(32768);
         taken(y, 2, 65536, 3, 131072);
         CHECKS.due("the greatest: at(1, 2, 0)", y.at(1, 2, 0), 32767);
         taken(y, 2, 65536, 3, 32767);
@@ -147,7 +137,7 @@ public final class EdgeRuleTest {
     private static void last() {
         CHECKS.says("LAST is n - 1 - a");
         for (int a = 0; a <= 32; a++) {
-            MatchSeeker x = alike(64);
+            MatchSeeker x = Checks.alike(64);
             takenBounds(x, a, 0, 8, 16);
             int last = Math.min(63 - a, 60);
             CHECKS.due("a " + a + ": count(" + last + ")", x.count(last), last);
@@ -156,7 +146,7 @@ public final class EdgeRuleTest {
             CHECKS.due("a " + a + ": at(" + (last + 1) + ", 0, 0)", x.at(last + 1, 0, 0), 0);
         }
         for (int n = 0; n <= 40; n++) {
-            MatchSeeker x = alike(n);
+            MatchSeeker x = Checks.alike(n);
             x.bounds(32, 0, 8, 16);
             CHECKS.due(n + " bytes, a 32: is there a MATCH at place 1", x.count(1), n >= 34 ? 1 : 0);
             CHECKS.due(n + " bytes, a 32: go()", x.go(), n >= 34 ? 1 : 0);
@@ -166,7 +156,7 @@ public final class EdgeRuleTest {
     private static void end() {
         CHECKS.says("END is n - b");
         for (int b = 0; b <= 32; b++) {
-            MatchSeeker x = alike(64);
+            MatchSeeker x = Checks.alike(64);
             takenBounds(x, 0, b, 8, 16);
             int furthest = 64 - b - 4;
             CHECKS.due("b " + b + ": at(1, 2, 0)", x.at(1, 2, 0), 63 - b);
@@ -181,7 +171,7 @@ public final class EdgeRuleTest {
         CHECKS.says("each told as how many bytes lie behind it");
         for (int a = 0; a <= 32; a++) {
             for (int b = 0; b <= 32; b += 1 + a % 3) {
-                MatchSeeker x = alike(70);
+                MatchSeeker x = Checks.alike(70);
                 takenBounds(x, a, b, 8, 16);
                 int last = Math.min(69 - a, 66 - b);
                 CHECKS.due("a " + a + ", b " + b + ": count(" + last + ")", x.count(last), last);
@@ -194,7 +184,7 @@ public final class EdgeRuleTest {
         CHECKS.says("END is 0 when n is less than b");
         for (int b : new int[] {1, 5, 31, 32}) {
             for (int n = 0; n <= b + 8; n++) {
-                MatchSeeker x = alike(n);
+                MatchSeeker x = Checks.alike(n);
                 x.bounds(0, b, 8, 16);
                 boolean some = n - b >= 1 + 4;
                 CHECKS.due(n + " bytes, b " + b + ": at(1, 2, 0)", x.at(1, 2, 0), some ? n - b - 1 : 0);
@@ -214,7 +204,7 @@ public final class EdgeRuleTest {
             refusedBounds(wrong, 0, 8, 16);
             refusedBounds(0, wrong, 8, 16);
         }
-        MatchSeeker x = alike(64);
+        MatchSeeker x = Checks.alike(64);
         takenBounds(x, 32, 32, 8, 16);
         CHECKS.due("LAST is 31, END is 32: count(28)", x.count(28), 28);
         CHECKS.due("LAST is 31, END is 32: count(29)", x.count(29), 0);

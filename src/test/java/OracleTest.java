@@ -1,6 +1,6 @@
 import java.util.Random;
 
-/** Promises 1 to 14: runs of calls by chance, the same ones every time and no more than are promised, held against Oracle. */
+/** Promises 1 to 14: runs of as many calls as are promised, by chance but always the same, held against Oracle. */
 public final class OracleTest {
     private static final int RUNS = 1000;
     private static final int CALLS = 512;
