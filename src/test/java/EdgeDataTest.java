@@ -126,6 +126,17 @@ public final class EdgeDataTest {
             CHECKS.due(state + ": go()", x.go(), 0);
             CHECKS.due(state + ": about(1)", x.about(1), 0);
         }
+        for (int bytes = 1; bytes <= 60; bytes++) {
+            int n = bytes;
+            TWINS.alike("cleared of " + n + " bytes that were looked at, and new", x -> {
+                Checks.write(x, "a".repeat(n));
+                x.history(n / 3);
+                x.at(n / 2, 2, 0);
+                x.go();
+                x.clear();
+            }, x -> {
+            });
+        }
     }
 
     private static void clearLeavesNoHistory() {

@@ -284,6 +284,8 @@ public final class EdgeGoingTest {
         furtherCouldBeLonger.bounds(0, 0, 200, 16);
         furtherCouldBeLonger.history(28);
         goes(furtherCouldBeLonger, 0, 4, 16, 0, 4, 25, 0);
+        furtherCouldBeLonger.history(27);
+        goes(furtherCouldBeLonger, 1, 4, 16, 0, 4, 25, 0);
         MatchSeeker run = Checks.holding("aaaaaaaaaaaa");
         run.rule(4, 65536, 4, 131072);
         run.history(7);
